@@ -23,6 +23,11 @@ public final class PlaceTest {
         check.place(x, 1, 0, 2);
         check.due("rule(1)", x.rule(1), 3);
         check.due("rule(3)", x.rule(3), 0);
+        x = check.told("cols auto auto; item 1 1 0 0 row 0; item 1 1 0 0 col 0; item 1 1 0 0 col 0 row 0; item 1 1 0 0 row 0;");
+        check.place(x, 2, 0, 0);
+        check.place(x, 0, 1, 0);
+        check.place(x, 3, -4, -4);
+        check.place(x, 1, 0, 1);
     }
 
     private static void pinsOfRowsByOrder() {

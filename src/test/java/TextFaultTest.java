@@ -37,6 +37,10 @@ public final class TextFaultTest {
         check.faulty(" 12", 1, 2);
         check.faulty("col", 0, 2);
         check.faulty("colss auto;", 0, 2);
+        check.faulty("bols auto;", 0, 2);
+        check.faulty("colz auto;", 0, 2);
+        check.faulty("az", 0, 2);
+        check.faulty("z", 0, 2);
         check.faulty("auto;", 0, 2);
         check.faulty("cols", 4, 2);
         check.faulty("cols   ", 7, 2);
