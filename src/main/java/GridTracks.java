@@ -217,10 +217,9 @@ public final class GridTracks {
         if (!grid.isItem(w, h, width, height)) {
             return BAD;
         }
-        if (grid.items >= MOST_ITEMS) {
+        if (!grid.append(w, h, width, height)) {
             return FULL;
         }
-        grid.append(w, h, width, height);
         stale = true;
         return grid.items;
     }
@@ -321,11 +320,12 @@ public final class GridTracks {
         }
         int came = 0;
         int next = seed;
-        while (came < n && grid.items < MOST_ITEMS) {
+        boolean room = true;
+        for (int k = 0; k < n && room; k++) {
             next = next * 1103515245 + 12345;
             int got = (next >>> 16) & 0x7fff;
-            grid.append(got % grid.columns + 1, got / 8 % 3 + 1, got / 32 % 50, got / 2048 % 15);
-            came++;
+            room = grid.append(got % grid.columns + 1, got / 8 % 3 + 1, got / 32 % 50, got / 2048 % 15);
+            came += room ? 1 : 0;
         }
         stale = true;
         return came;
@@ -402,7 +402,6 @@ public final class GridTracks {
             }
         }
         tornFault = fault;
-        stale = true;
         return came;
     }
 
@@ -511,7 +510,9 @@ public final class GridTracks {
                 across.admit(placement.columns[i], grid.facts[WIDE][i], grid.facts[NEED_WIDTH][i]);
             }
         }
-        across.growBySpans(MOST_COLUMNS);
+        for (int wide = 1; wide <= MOST_COLUMNS; wide++) {
+            across.growBy(wide);
+        }
         if (grid.width == NONE) {
             shares.dealByNeed(across);
         } else {
@@ -529,7 +530,9 @@ public final class GridTracks {
                 down.admit(placement.firstRows[i], grid.facts[TALL][i], grid.facts[NEED_HEIGHT][i]);
             }
         }
-        down.growBySpans(MOST_TALL);
+        for (int tall = 1; tall <= MOST_TALL; tall++) {
+            down.growBy(tall);
+        }
     }
 
     /** What a text tells and an image keeps. */
@@ -593,8 +596,11 @@ public final class GridTracks {
             return facts[WIDE][i] <= columns && isPin(i, facts[PIN_COLUMN][i], facts[PIN_ROW][i]);
         }
 
-        /** The caller has looked whether there is room for one item more. */
-        void append(int wide, int tall, int needWidth, int needHeight) {
+        /** Tells whether there was room for one item more. */
+        boolean append(int wide, int tall, int needWidth, int needHeight) {
+            if (items >= MOST_ITEMS) {
+                return false;
+            }
             facts[WIDE][items] = wide;
             facts[TALL][items] = tall;
             facts[NEED_WIDTH][items] = needWidth;
@@ -602,6 +608,7 @@ public final class GridTracks {
             facts[PIN_COLUMN][items] = NONE;
             facts[PIN_ROW][items] = NONE;
             items++;
+            return true;
         }
 
         void remove(int i) {
@@ -782,12 +789,6 @@ public final class GridTracks {
             guests++;
         }
 
-        void growBySpans(int most) {
-            for (int span = 1; span <= most; span++) {
-                growBy(span);
-            }
-        }
-
         int startOf(int t) {
             int start = 0;
             for (int k = 0; k < t; k++) {
@@ -820,7 +821,7 @@ public final class GridTracks {
         }
 
         /** All of one span at once: what one item deals is not seen by the next. */
-        private void growBy(int span) {
+        void growBy(int span) {
             Arrays.fill(growth, 0);
             for (int g = 0; g < guests; g++) {
                 if (spans[g] == span && flexShares(g) == 0) {
@@ -1275,11 +1276,10 @@ public final class GridTracks {
         }
 
         private boolean takeItemLine() {
-            if (draft.items >= MOST_ITEMS) {
+            int i = draft.items;
+            if (!draft.append(1, 1, 0, 0)) {
                 return refuse(TOO_MANY);
             }
-            int i = draft.items;
-            draft.append(1, 1, 0, 0);
             for (int what = 0; what < FACTS_IN_NUMBERS; what++) {
                 if (!takeNumber(LEAST_FACT[what], MOST_FACT[what])) {
                     return false;
@@ -1298,21 +1298,19 @@ public final class GridTracks {
         }
 
         private boolean takePin(int i) {
-            if (tokens.isName("row")) {
-                boolean again = draft.facts[PIN_ROW][i] != NONE;
-                return again ? refuse(NOT_AGAIN) : takePinNumber(i, PIN_ROW, PLACING_ROWS - 1);
-            }
-            if (!tokens.isName("at") && !tokens.isName("col")) {
+            boolean isRow = tokens.isName("row");
+            boolean isLetter = tokens.isName("at");
+            if (!isRow && !isLetter && !tokens.isName("col")) {
                 return refuseToken();
             }
-            if (draft.facts[PIN_COLUMN][i] != NONE) {
+            int what = isRow ? PIN_ROW : PIN_COLUMN;
+            if (draft.facts[what][i] != NONE) {
                 return refuse(NOT_AGAIN);
             }
-            return tokens.isName("at") ? takePinLetter(i) : takePinNumber(i, PIN_COLUMN, MOST_COLUMNS - 1);
-        }
-
-        private boolean takePinNumber(int i, int what, int most) {
-            if (!takeNumber(0, most)) {
+            if (isLetter) {
+                return takePinLetter(i);
+            }
+            if (!takeNumber(0, isRow ? PLACING_ROWS - 1 : MOST_COLUMNS - 1)) {
                 return false;
             }
             draft.facts[what][i] = tokens.value;

@@ -45,6 +45,7 @@ public final class SizeTest {
 
     private static void sharesByNeed() {
         check.columns(check.told("cols flex 1 flex 9;"), 2, 0, 0);
+        check.columns(check.told("cols flex 1 flex 9; item 1 1 1 0;"), 2, 1, 9);
         check.columns(check.told("cols flex 2 fix 5 flex 1; gap 1 0; item 3 1 20 0;"), 2, 10, 5, 5);
         check.columns(check.told("cols flex 2 fix 5 flex 1; gap 1 0; item 3 1 22 0;"), 2, 10, 5, 5);
         check.columns(check.told("cols flex 2 fix 5 flex 1; gap 1 0; item 3 1 23 0;"), 2, 12, 5, 6);
