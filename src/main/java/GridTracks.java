@@ -389,10 +389,10 @@ public final class GridTracks {
         }
         int before = grid.items;
         int came = 0;
-        int fault = sheet.faultAs(lane);
+        int fault = 0;
         for (int i = 0; i < n && fault == 0; i++) {
             long from = f + (long) CELLS_OF_ITEM * i;
-            fault = sheet.faultOf(from, CELLS_OF_ITEM);
+            fault = sheet.faultAs(lane, from, CELLS_OF_ITEM);
             if (fault == 0) {
                 if (!takeItem(sheet, (int) from)) {
                     grid.items = before;
@@ -985,9 +985,9 @@ public final class GridTracks {
             Arrays.fill(cells, 0);
         }
 
-        /** Nothing can be taken as of any lane, as null can be cast: only its cells can not be had. */
-        int faultAs(int asLane) {
-            return length != NONE && lane != asLane ? CAST : 0;
+        /** What the machine finds when cells are taken as of a lane; it casts a row ahead of looking for a cell. */
+        int faultAs(int asLane, long from, int n) {
+            return length != NONE && lane != asLane ? CAST : faultOf(from, n);
         }
 
         /** What the machine finds when some cells are taken one behind another. */
@@ -1171,7 +1171,8 @@ public final class GridTracks {
                 tokens.advance();
             }
             int tracks = 0;
-            while (tracks == 0 || (tracks <= MOST_COLUMNS && tokens.kind != SEMICOLON)) {
+            // tracks too many are read as well, since their own faults are met ahead of the line's end
+            while (tracks == 0 || (tracks < TAPE_BYTES && tokens.kind != SEMICOLON)) {
                 if (!takeTrack(tracks)) {
                     return false;
                 }
@@ -1186,14 +1187,13 @@ public final class GridTracks {
             if (kind == NONE) {
                 return refuseToken();
             }
-            if (c >= MOST_COLUMNS) {
-                return refuse(TOO_MANY);
-            }
             if ((kind == FIX && !takeNumber(0, MOST_FIX)) || (kind == FLEX && !takeNumber(1, MOST_FLEX))) {
                 return false;
             }
-            draft.kinds[c] = kind;
-            draft.numbers[c] = kind == AUTO ? 0 : tokens.value;
+            if (c < MOST_COLUMNS) {
+                draft.kinds[c] = kind;
+                draft.numbers[c] = kind == AUTO ? 0 : tokens.value;
+            }
             return true;
         }
 

@@ -212,10 +212,21 @@ public final class ImageSheetTest {
         torn(x, 0, 2, -1, 1, 0, 3);
         torn(x, 1, 2, 0, 1, 0, 1);
         torn(x, 1, 2, -1, 1, 0, 1);
-        // nothing is read, so nothing but the lane can be refused
-        torn(x, 1, 2, -1, 0, 0, 0);
-        torn(x, 0, 2, 0, 0, 0, 3);
-        torn(x, 0, 1, -1, 0, 0, 0);
+        check.due("rule(2)", x.rule(2), 3);
+        nothingIsTorn(x);
+    }
+
+    /** No cell is had, so that the machine has nothing to refuse: no lane, no place, no sheet of nothing. */
+    private static void nothingIsTorn(GridTracks x) {
+        for (int k = 0; k < 2; k++) {
+            for (int lane = 0; lane < 3; lane++) {
+                torn(x, 1, 0, 0, 1, 0, 1);
+                torn(x, k, lane, 0, 0, 0, 0);
+                torn(x, 0, 0, 0, 1, 0, 3);
+                torn(x, k, lane, -1, 0, 0, 0);
+                torn(x, k, lane, Integer.MAX_VALUE, 0, 0, 0);
+            }
+        }
         check.due("rule(2)", x.rule(2), 3);
     }
 

@@ -218,9 +218,6 @@ final class Model {
                 if (!token.matches("fix|auto|flex")) {
                     throw new TextFault(2, place);
                 }
-                if (some.size() == 6) {
-                    throw new TextFault(5, place);
-                }
                 switch (token) {
                     case "fix" -> some.add(new int[] {0, number(0, 99)});
                     case "flex" -> some.add(new int[] {2, number(1, 9)});
@@ -801,14 +798,11 @@ final class Model {
         int came = 0;
         int found = 0;
         try {
-            byte[] b = lane == 0 ? (byte[]) sheets[k] : null;
-            short[] h = lane == 1 ? (short[]) sheets[k] : null;
-            int[] w = lane == 2 ? (int[]) sheets[k] : null;
             for (int i = 0; i < n; i++) {
                 int[] cells = new int[4];
                 for (int j = 0; j < 4; j++) {
                     int at = f + 4 * i + j;
-                    cells[j] = lane == 0 ? b[at] : lane == 1 ? h[at] : w[at];
+                    cells[j] = lane == 0 ? ((byte[]) sheets[k])[at] : lane == 1 ? ((short[]) sheets[k])[at] : ((int[]) sheets[k])[at];
                 }
                 if (add(cells[0], cells[1], cells[2], cells[3]) < 0) {
                     s = was;

@@ -139,7 +139,7 @@ public final class RandomRunsTest {
             case "scatter": return k == 0 ? random.nextInt() : 1 + random.nextInt(4);
             case "sheet": return random.nextInt(k == 0 ? 2 : k == 1 ? 3 : 40);
             case "lay": return random.nextInt(k == 0 ? 2 : k == 1 ? 12 : 5) + (k == 2 && random.nextInt(4) == 0 ? random.nextInt() << 8 : 0);
-            case "read": return random.nextInt(k == 0 ? 2 : k == 1 ? 3 : k == 2 ? 8 : 4);
+            case "read": return random.nextInt(k == 0 ? 3 : k == 1 ? 3 : k == 2 ? 8 : 4);
             case "keep": case "back": return random.nextInt(2);
             default: return random.nextInt(k == 0 ? 10 : 8);
         }
@@ -204,7 +204,8 @@ public final class RandomRunsTest {
             times = columns % t == 0 && random.nextInt(3) == 0 ? t : times;
         }
         StringBuilder b = new StringBuilder(times > 1 ? "cols repeat " + times : "cols");
-        for (int k = 0; k < columns / times; k++) {
+        int tooMany = random.nextInt(12) == 0 ? random.nextInt(7) : 0;
+        for (int k = 0; k < columns / times + tooMany; k++) {
             String[] kinds = {" auto", " fix " + random.nextInt(40), " flex " + (1 + random.nextInt(9))};
             b.append(kinds[random.nextInt(3)]);
         }

@@ -135,15 +135,36 @@ public final class TextFaultTest {
         check.text(new GridTracks(), "cols auto;" + ten, 11, 0);
         check.faulty("cols auto;" + ten + "item 1 1 1 1;", 140, 5);
         check.faulty(ten + " item", 131, 5);
-        check.faulty("cols auto auto auto auto auto auto auto;", 35, 5);
-        check.faulty("cols auto auto auto auto auto auto fix 100;", 35, 5);
-        check.faulty("cols auto auto auto auto auto auto flux;", 35, 2);
-        check.faulty("cols repeat 1 auto auto auto auto auto auto auto auto;", 44, 5);
+        tooManyTracks();
+    }
+
+    /** Tracks too many are refused at the ; alone; what is wrong within them is met ahead of it. */
+    private static void tooManyTracks() {
+        String six = "cols auto auto auto auto auto auto";
+        check.text(new GridTracks(), six + ";", 1, 0);
+        check.faulty(six + " auto;", 39, 5);
+        check.faulty(six + " fix 99 flex 9 ;", 49, 5);
+        check.faulty(six + " auto; $", 39, 5);
+        check.faulty(six + " auto; cols", 39, 5);
+        check.faulty(six + " fix 100;", 39, 3);
+        check.faulty(six + " flex 0;", 40, 3);
+        check.faulty(six + " flux;", 35, 2);
+        check.faulty(six + " fix", 38, 2);
+        check.faulty(six + " fix;", 38, 2);
+        check.faulty(six + " auto", 39, 2);
+        check.faulty(six + " auto gap", 40, 2);
+        check.faulty(six + " auto 1234;", 40, 1);
+        check.faulty(six + " auto$;", 39, 1);
+        check.faulty(six + " repeat 2;", 35, 2);
+        check.faulty("cols flex2fix5fix5fix5fix5fix5fix", 33, 2);
+        check.faulty("cols repeat 1 auto auto auto auto auto auto auto auto;", 53, 5);
         check.faulty("cols repeat 2 auto auto auto auto;", 33, 5);
         check.faulty("cols repeat 4 fix 1 auto ;gap", 25, 5);
         check.faulty("cols repeat 4 fix 1 auto gap", 25, 2);
         check.faulty("cols repeat 6 fix 1 fix 100;", 24, 3);
-        check.text(new GridTracks(), "cols auto auto auto auto auto auto;", 1, 0);
+        check.faulty("cols repeat 6 " + "fix0".repeat(76) + ";", 318, 5);
+        check.faulty("cols " + "fix0".repeat(78) + "  ;", 319, 5);
+        check.faulty("cols " + "fix0".repeat(78) + "fix", 320, 2);
     }
 
     private static void notInTheGrid() {
