@@ -47,15 +47,20 @@ public final class EdgeAnswersTest {
         }
     }
 
-    /** As rich(), with as many items and bytes as there may be. */
-    private static GridTracks full() {
+    /** As many items as there may be. */
+    private static GridTracks fullGrid() {
         GridTracks x = check.told("cols auto auto;" + "item 1 1 9 9;".repeat(10));
         x.keep(1);
         layAll(x, 0, 1, 1, 2, 3, 4);
         layAll(x, 1, 0, 2, 4, 99, 98, 3, 1, 1, 1);
-        while (x.count(2) < 320 && x.feed(' ') > 0) {
-            continue;
-        }
+        return x;
+    }
+
+    /** As many bytes as there may be. */
+    private static GridTracks fullTape() {
+        GridTracks x = check.told("cols auto;item 1 1 9 9;");
+        Check.feed(x, " ".repeat(313) + "high 7;");
+        check.due("count(2)", x.count(2), 320);
         return x;
     }
 
@@ -178,7 +183,7 @@ public final class EdgeAnswersTest {
 
     /** "FULL": of the tape. */
     private static void aFullTapeKeepsItsBytes() {
-        Edge full = new Edge(check, EdgeAnswersTest::full);
+        Edge full = new Edge(check, EdgeAnswersTest::fullTape);
         full.refused(-3, "feed", 0);
         full.refused(-3, "feed", ';');
         full.refused(-3, "feed", 127);
@@ -191,7 +196,7 @@ public final class EdgeAnswersTest {
 
     /** "FULL": of items; a read() says it as add()'s refusal, scatter() by how many came. */
     private static void aFullGridKeepsItsItems() {
-        Edge full = new Edge(check, EdgeAnswersTest::full);
+        Edge full = new Edge(check, EdgeAnswersTest::fullGrid);
         full.refused(-3, "add", 1, 1, 0, 0);
         full.refused(-3, "add", 2, 4, 99, 99);
         full.refused(-1, "add", 3, 1, 0, 0);

@@ -254,15 +254,23 @@ public final class EdgeChangesTest {
     private static void scatterByTheSeed() {
         for (int seed : new int[] {0, 1, -1, 12345, 65536, 1 << 30, FAR, LOW, LOW + 1}) {
             for (int columns = 1; columns <= 6; columns++) {
-                GridTracks x = check.told("cols repeat " + columns + " auto;");
-                check.due("scatter()", x.scatter(seed, 10), 10);
-                long now = seed;
-                for (int i = 0; i < 10; i++) {
-                    now = Math.floorMod(now * 1103515245L + 12345L, 1L << 32);
-                    int got = (int) ((now >> 16) % 32768);
-                    check.item(x, i, got % columns + 1, got / 8 % 3 + 1, got / 32 % 50, got / 2048 % 15, NONE, NONE);
-                }
+                scattered(seed, columns);
             }
+        }
+        // so many that each divisor meets a number that its neighbours would divide in another way
+        for (int k = 0; k < 300; k++) {
+            scattered(7919 * k, 1 + k % 6);
+        }
+    }
+
+    private static void scattered(int seed, int columns) {
+        GridTracks x = check.told("cols repeat " + columns + " auto;");
+        check.due("scatter()", x.scatter(seed, 10), 10);
+        long now = seed;
+        for (int i = 0; i < 10; i++) {
+            now = Math.floorMod(now * 1103515245L + 12345L, 1L << 32);
+            int got = (int) ((now >> 16) % 32768);
+            check.item(x, i, got % columns + 1, got / 8 % 3 + 1, got / 32 % 50, got / 2048 % 15, NONE, NONE);
         }
     }
 

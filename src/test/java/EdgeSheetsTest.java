@@ -384,6 +384,7 @@ public final class EdgeSheetsTest {
             check.due("count(" + what + ")", none.count(what), zero[what]);
         }
         new Edge(check, GridTracks::new).bounds(0, 5, "count", 0, 0);
+        check.due("shares of flex columns alone", check.told("cols fix 99 flex 3 auto flex 4 fix 1;").count(4), 7);
         GridTracks x = check.told("cols repeat 6 flex 9;");
         for (int i = 0; i < 10; i++) {
             x.add(1, 1, 99, 0);

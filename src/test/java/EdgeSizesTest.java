@@ -21,6 +21,7 @@ public final class EdgeSizesTest {
         leastIs0WithoutItems();
         frozenAllOfARoundAtOnce();
         frozenRoundByRound();
+        nothingOfWhatThereWas();
         leftLessWhatIsFrozenIs0AtLeast();
         allFrozenOrNoneFlex();
         rowsAsAutoColumns();
@@ -183,6 +184,9 @@ public final class EdgeSizesTest {
         columns("cols flex 1 flex 1;width 21;item 1 1 10 0 col 1;", 11, 10);
         columns("cols flex 2 flex 1;width 10;item 1 1 4 0 col 1;", 6, 4);
         columns("cols flex 2 flex 1;width 10;item 1 1 3 0 col 1;", 7, 3);
+        columns("cols flex 2 flex 1 flex 1;width 10;item 1 1 5 0 col 0;", 6, 2, 2);
+        columns("cols flex 2 flex 1 flex 1;width 9;item 1 1 5 0 col 0;", 5, 2, 2);
+        columns("cols flex 2 flex 1 flex 1;width 10;item 1 1 6 0 col 0;", 6, 2, 2);
     }
 
     /** "LEAST of a flex COLUMN: the most that an ITEM (PLACED, WIDE 1) in it NEEDS (0)." */
@@ -209,6 +213,25 @@ public final class EdgeSizesTest {
         columns("cols flex 1 flex 1 flex 1;width 30;item 1 1 12 0 col 0;item 1 1 10 0 col 1;item 1 1 9 0 col 2;", 12, 10, 9);
         columns("cols repeat 6 flex 1;width 120;item 1 1 25 0 col 0;item 1 1 20 0 col 1;item 1 1 19 0 col 2;item 1 1 19 0 col 3;item 1 1 19 0 col 4;",
             25, 20, 19, 19, 19, 18);
+        String six = "cols flex 4 flex 7 flex 6 flex 7 flex 4 flex 3;width 165;item 1 1 99 0 col 0;item 1 1 37 0 col 1;item 1 1 14 0 col 2;"
+            + "item 1 1 10 0 col 3;item 1 1 4 0 col 4;item 1 1 ";
+        columns(six + "2 0 col 5;", 99, 37, 14, 10, 4, 2);
+        columns(six + "1 0 col 5;", 99, 37, 14, 10, 4, 1);
+    }
+
+    /** What columns, rows and items there were ahead of a text does not matter to fewer of them. */
+    private static void nothingOfWhatThereWas() {
+        GridTracks x = check.told("cols repeat 6 flex 9;width 60;gap 9 9;high 9;" + "item 1 1 90 90;".repeat(10));
+        check.columns(x, 2, 90, 90, 90, 90, 90, 90);
+        check.text(x, "cols flex 1 flex 1;width 5;item 1 1 1 0;", 3, 0);
+        check.columns(x, 2, 3, 2);
+        check.rows(x, 0, 0);
+        check.text(x, "cols flex 1 flex 1;width 5;item 1 1 3 0 col 1;", 3, 0);
+        check.columns(x, 2, 2, 3);
+        check.text(x, "cols flex 1 auto;item 2 1 7 0;", 2, 0);
+        check.columns(x, 2, 7, 0);
+        check.due("total(0)", x.total(0), 7);
+        check.due("total(1)", x.total(1), 0);
     }
 
     /** "LEFT less what is FROZEN, 0 at least". */

@@ -128,6 +128,8 @@ public final class EdgeTextTest {
     private static void namesAreAsLongAsMayBe() {
         check.faulty("highhigh 7;", 0, 2);
         check.faulty("hig 7;", 0, 2);
+        check.faulty("bigh 7;", 0, 2);
+        check.faulty("higs 7;", 0, 2);
         check.faulty("colsauto;", 0, 2);
         check.faulty("cols autoauto;", 5, 2);
         check.faulty("linea 0;", 0, 2);
@@ -352,6 +354,17 @@ public final class EdgeTextTest {
         }
         check.text(new GridTracks(), "line a 0;line b 0;", 2, 0);
         check.text(new GridTracks(), "cols auto;item 1 1 0 0;item 1 1 0 0;", 3, 0);
+        theSecondTimeIsOfOneText();
+    }
+
+    /** A text begins anew, whether the one ahead of it was taken or not. */
+    private static void theSecondTimeIsOfOneText() {
+        String text = "cols auto;gap 1 2;width 3;high 4;line a 1;line h 0;item 1 1 5 6 at h row 7;";
+        GridTracks x = new GridTracks();
+        check.text(x, text, 7, 0);
+        check.text(x, text, 7, 0);
+        check.text(x, text + "$", -10 - text.length(), 1);
+        check.text(x, text, 7, 0);
     }
 
     /** Fault 4: "a second pin of COLUMNS (at, col), of ROWS (each: its NAME ..)"; one of each may be, in any order. */

@@ -1,6 +1,6 @@
 /**
  * All that can be asked of an object. Some questions change it (an image is asked by back(), the tape by text(), a sheet
- * by read()), so that they are put in parts, each for an object of its own; no part has more than some 300 calls.
+ * by read()), so that they are put in parts, each for an object of its own: so an object stays below its 512 calls.
  */
 final class Probe {
     static final int PARTS = 5;
@@ -15,13 +15,12 @@ final class Probe {
     static String part(GridTracks x, int part) {
         Probe probe = new Probe(x);
         switch (part) {
-            case 0: break;
-            case 1: probe.tell("back(0)", x.back(0)); break;
-            case 2: probe.tell("back(1)", x.back(1)); break;
-            case 3: probe.tell("text()", x.text()); break;
+            case 0: probe.answers(); break;
+            case 1: probe.tell("back(0)", x.back(0)); probe.answers(); break;
+            case 2: probe.tell("back(1)", x.back(1)); probe.answers(); break;
+            case 3: probe.tell("text()", x.text()); probe.answers(); break;
             default: probe.sheets(); break;
         }
-        probe.answers();
         return probe.told.toString();
     }
 
@@ -78,13 +77,16 @@ final class Probe {
 
     /** The cells are seen where they make items, the lanes by casts, the lengths by lay(). */
     private void sheets() {
-        while (x.rule(2) > 0) {
+        for (int i = x.rule(2); i > 0; i--) {
             x.drop(0);
         }
         for (int k = 0; k < 4; k++) {
             for (int lane = 0; lane < 3; lane++) {
-                for (int f = 0; f < 12; f += 4) {
+                // of another lane or of nothing there are no cells to be seen
+                int fault = 0;
+                for (int f = 0; f < 12 && fault == 0; f += 4) {
                     cells(k, lane, f);
+                    fault = x.torn();
                 }
             }
             for (int i = 0; i < 14; i++) {
