@@ -147,7 +147,7 @@ public final class EdgeAnswersTest {
         rich.bounds(0, 99, "track", 2, 1, 0, 0);
         rich.bounds(0, 0, "track", 2, 0, 1, 0);
         rich.bounds(1, 9, "track", 2, 1, 2, 0);
-                rich.refused(-1, "track", 1, -1, 1);
+        rich.refused(-1, "track", 1, -1, 1);
         rich.refused(-1, "track", 1, 3, 1);
         rich.bounds(0, 999, "width", 0, 0);
         rich.bounds(0, 20, "gap", 0, 0, 0);
